@@ -151,16 +151,20 @@ public final class FaceTest {
     private static void callsMakeNothing() {
         com.sun.management.ThreadMXBean threads =
                 (com.sun.management.ThreadMXBean) ManagementFactory.getThreadMXBean();
-        KineticCup x = new KineticCup();
-        x.runner(6, 1, 60, 4);
-        Due.pad(x, "e+.f-.g%h.h!.h#.........");
-        dearestCalls(x);
+        KineticCup[] objects = new KineticCup[20];
+        for (int i = 0; i < objects.length; i++) {
+            objects[i] = new KineticCup();
+            Due.pad(objects[i], "e+.f-.g%h.h!.h#.........");
+        }
+        dearestCalls(objects[0]);
         long before = threads.getThreadAllocatedBytes(Thread.currentThread().getId());
-        for (int i = 0; i < 500; i++) {
-            dearestCalls(x);
+        for (KineticCup x : objects) {
+            for (int i = 0; i < 35; i++) {
+                dearestCalls(x);
+            }
         }
         long made = threads.getThreadAllocatedBytes(Thread.currentThread().getId()) - before;
-        DUE.isTrue("bytes made by 6500 calls: " + made, made < 100000);
+        DUE.isTrue("bytes made by 9100 calls: " + made, made < 100000);
     }
 
     private static void dearestCalls(KineticCup x) {

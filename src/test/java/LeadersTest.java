@@ -17,6 +17,7 @@ public final class LeadersTest {
         numberIsCutFromTheSingleOne();
         heaps();
         heapTakesThoseIn();
+        heapIsNotAsExact();
         DUE.end();
     }
 
@@ -96,24 +97,26 @@ public final class LeadersTest {
         nextIs(x, 30, 1, 4);
     }
 
-    /** h leads, from 7/5 on a, from 100/50 on nobody else; b is out. */
+    /** h leads, b passes it at 1, e passes b at 99/14; a never leads while b is in. */
     private static void everUpToATime() {
         KineticCup x = new KineticCup();
         x.runner(0, 0, 0, 10);
         x.runner(4, 1, -30, 15);
         x.runner(1, 0, 69, 1);
         DUE.is("14: now alone", x.ever(0, 1), 128);
-        DUE.is("14: just ahead of b", x.ever(99, 100), 128);
+        DUE.is("14: just ahead of 1", x.ever(99, 100), 128);
         DUE.is("14: b at 1", x.ever(1, 1), 128 | 2);
-        DUE.is("14: just ahead of 20/3, where e passes b", x.ever(66, 10), 128 | 2);
+        DUE.is("14: e passes h at 20/3, which b leads by then", x.ever(20, 3), 128 | 2);
         DUE.is("14: e at 99/14", x.ever(99, 14), 128 | 2 | 16);
         DUE.is("14: just ahead of 99/14", x.ever(707, 100), 128 | 2);
         DUE.is("14: far", x.ever(9999, 1), 128 | 2 | 16);
-        Due.does(x, "..");
+        Due.does(x, ".");
+        DUE.is("14: b leads from now on", x.ever(1, 1), 2);
+        Due.does(x, ".");
         DUE.is("14: what is gone does not count", x.ever(2, 1), 2);
         DUE.is("14: what is gone does not count", x.ever(9999, 1), 2 | 16);
         Due.does(x, "b!");
-        DUE.is("14: a leads at 7, e passes it at 6", x.ever(9999, 1), 128 | 16);
+        DUE.is("14: e passes h at 20/3, ahead of a", x.ever(9999, 1), 128 | 16);
         x.runner(4, 1, -30, 14);
         DUE.is("14: h, a at 7, e at 15/2", x.ever(15, 2), 128 | 1 | 16);
         DUE.is("14: h, a at 7", x.ever(7, 1), 128 | 1);
@@ -171,12 +174,13 @@ public final class LeadersTest {
         DUE.is("16: 0", x.number(0, 0, 1, 1), 0);
         int[][] lines = {{0, 1}, {0, -1}, {1000, 50}, {-1000, -50}, {1000, -50}, {-7, 3}, {1, 0}};
         for (int[] line : lines) {
-            x.runner(5, 1, line[0], line[1]);
             for (int q = 1; q <= 100; q++) {
+                KineticCup y = new KineticCup();
+                y.runner(5, 1, line[0], line[1]);
                 for (int p = q % 7; p <= 9999; p += 1013) {
-                    numberIs(x, 5, p, q, line[0] * q + line[1] * p);
+                    numberIs(y, 5, p, q, line[0] * q + line[1] * p);
                 }
-                numberIs(x, 5, 1, q, line[0] * q + line[1]);
+                numberIs(y, 5, 1, q, line[0] * q + line[1]);
             }
         }
     }
@@ -212,16 +216,17 @@ public final class LeadersTest {
         DUE.is("17: what -1", x.heap(0, 1, -1), OUTSIDE);
         heapIs(x, 0, 1, 280f);
         int[][] lines = {{1000, 50}, {0, 1}, {-1000, -50}, {3, 7}, {0, -1}, {500, -3}, {-20, 11}, {1, 1}};
-        for (int r = 0; r < 8; r++) {
-            x.runner(r, r < 4 ? 0 : 1, lines[r][0], lines[r][1]);
-        }
         for (int q = 1; q <= 100; q++) {
+            KineticCup y = new KineticCup();
+            for (int r = 0; r < 8; r++) {
+                y.runner(r, r / 4, lines[r][0], lines[r][1]);
+            }
             for (int p = q % 5; p <= 9999; p += 1427) {
                 float sum = 0f;
                 for (int[] line : lines) {
                     sum = sum + (float) (line[0] * q + line[1] * p) / (float) q;
                 }
-                heapIs(x, p, q, sum);
+                heapIs(y, p, q, sum);
             }
         }
     }
@@ -239,5 +244,28 @@ public final class LeadersTest {
         heapIs(x, 1, 3, 0f);
         Due.does(x, "g!h!");
         heapIs(x, 1, 3, 0f);
+    }
+
+    /** The values add up to 0, the single numbers to a bit more or less than that. */
+    private static void heapIsNotAsExact() {
+        int[][] slopes = {{-8, 7, 1, 0, 0, 0, 0, 0}, {7, 1, 1, -2, 7, -14, 0, 0}, {10, 3, -13, 0, 0, 0, 0, 0},
+            {-3, -9, -10, -8, 3, 27, 0, 0}, {0, 6, 8, -7, -7, 0, 0, 0}};
+        int[][] times = {{6, 52}, {2, 19}, {6, 43}, {9, 56}, {3, 9}};
+        int[] bits = {-1296039936, 872415232, -1275068416, 889192448, 889192448};
+        for (int i = 0; i < bits.length; i++) {
+            KineticCup x = new KineticCup();
+            for (int r = 0; r < 8; r++) {
+                x.runner(r, r / 4, 0, slopes[i][r]);
+            }
+            DUE.is("17: a bit is left", x.heap(times[i][0], times[i][1], 0), bits[i]);
+            DUE.is("17: cut", x.heap(times[i][0], times[i][1], 1), 0);
+        }
+        KineticCup x = new KineticCup();
+        for (int r = 0; r < 8; r++) {
+            x.runner(r, r / 4, 0, new int[] {-8, 7, 1, 0, 0, 0, 0, 1}[r]);
+        }
+        float left = -8f * 6 / 52 + 7f * 6 / 52;
+        left = left + 6f / 52f;
+        heapIs(x, 6, 52, left + 6f / 52f);
     }
 }

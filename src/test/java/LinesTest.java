@@ -11,9 +11,11 @@ public final class LinesTest {
         askNext();
         crossings();
         runsByDraws();
+        runIsAsItsText();
         runDoesNothingInFact();
         runEventsAndStaleOnes();
         images();
+        imageKeepsSights();
         imageKeepsStaleOnes();
         toldNumbers();
         DUE.end();
@@ -93,6 +95,12 @@ public final class LinesTest {
         DUE.is("21: A is 30, B 8, 9", x.lines(-1), 2);
         DUE.is("21: 39 at 1", x.ask(0), 1539);
         DUE.is("21: one is left", x.ask(1), 1);
+        x.forget();
+        x.seen(7, -1, true);
+        x.seen(4, 12, false);
+        DUE.is("21: 46 fit", x.lines(-1), 46);
+        DUE.is("21: 4 at 9", x.ask(0), 9504);
+        DUE.is("21: half is left", x.ask(1), 23);
     }
 
     private static void crossIs(KineticCup x, int one, int other, long upper, long lower) {
@@ -117,6 +125,9 @@ public final class LinesTest {
         crossIs(x, 0, 4, -20, 3);
         x.runner(5, 1, 40, -3);
         crossIs(x, 4, 5, 0, 1);
+        x.runner(6, 1, 60, 1);
+        crossIs(x, 6, 7, 10, 1);
+        crossIs(x, 7, 6, 10, 1);
         Due.does(x, "e!f!");
         crossIs(x, 4, 0, -20, 3);
         DUE.is("22: of those that are out as well", x.cross(4, 5, 1), 1);
@@ -129,7 +140,10 @@ public final class LinesTest {
         for (int[] w : wrong) {
             DUE.is("23: run(" + w[0] + ", " + w[1] + ", " + w[2] + ")", x.run(w[0], w[1], w[2]), -2);
         }
-        DUE.is("23: edges", x.run(9999, 99, 0) >= -6 ? 1 : 0, 1);
+        DUE.is("23: edges", x.run(9999, 99, 0), 6);
+        DUE.is("23: edges", x.run(9999, 99, 1), 2);
+        DUE.is("23: edges", x.run(9999, 99, 2), 0);
+        DUE.is("23: edges", x.run(0, 99, 0), 7);
         // 7 draws 599: of h, 74 left over by 8 is 2: it goes out.
         DUE.is("23: h is out", x.run(7, 1, 0), 6);
         // 0 draws 74: c, 1: a steady one can not be slower.
@@ -139,6 +153,38 @@ public final class LinesTest {
         Due.does(x, "a!b!c!d!e!f!g!h!");
         DUE.is("23: none leads", x.run(0, 1, 0), -6);
         DUE.is("23: no event", x.run(0, 1, 1), 0);
+    }
+
+    /** What is drawn is written as a text here, with what can not be left out. */
+    private static void runIsAsItsText() {
+        for (int seed = 0; seed < 10000; seed += 97) {
+            KineticCup x = new KineticCup();
+            x.runner(0, 0, 0, 9);
+            x.runner(5, 1, 50, 3);
+            x.runner(6, 1, 60, 2);
+            int m = 1 + seed % 60;
+            int leads = x.run(seed, m, 0);
+            int events = x.run(seed, m, 1);
+            int stale = x.run(seed, m, 2);
+            int eventsOfTexts = 0;
+            int staleOfTexts = 0;
+            int z = seed;
+            for (int i = 0; i < m; i++) {
+                z = (75 * z + 74) % 65537;
+                char letter = (char) ('a' + z % 8);
+                String[] acts = {"+", "-", "!", "#", "%" + (char) ('a' + z / 64 % 8)};
+                int draw = z / 8 % 8;
+                Due.pad(x, draw < 5 ? letter + acts[draw] : ".");
+                if (x.judge(0) == -6) {
+                    eventsOfTexts += x.then(4);
+                    staleOfTexts += x.then(3);
+                    x.done();
+                }
+            }
+            DUE.is("23: leads, seed " + seed, leads, x.told(2));
+            DUE.is("23: events, seed " + seed, events, eventsOfTexts);
+            DUE.is("23: stale, seed " + seed, stale, staleOfTexts);
+        }
     }
 
     private static void runDoesNothingInFact() {
@@ -217,6 +263,34 @@ public final class LinesTest {
         x.forget();
         x.restore(0);
         DUE.is("25: sights", x.told(4), 2);
+    }
+
+    /** Other sights come where those that are kept were. */
+    private static void imageKeepsSights() {
+        KineticCup x = new KineticCup();
+        x.seen(0, 5, true);
+        x.seen(0, 7, false);
+        x.seen(9, 77, true);
+        x.image(0);
+        int[] kept = {x.lines(-1), x.lines(0), x.ask(0), x.ask(1)};
+        DUE.is("20: four", kept[0], 4);
+        x.forget();
+        x.seen(3, -2, false);
+        x.seen(4, -9, true);
+        x.seen(5, 1, false);
+        x.seen(5, 2, false);
+        x.image(1);
+        DUE.isTrue("20: others fit", x.lines(0) != kept[1]);
+        int other = x.lines(0);
+        x.restore(0);
+        DUE.is("25: three", x.told(4), 3);
+        DUE.is("25: lines", x.lines(-1), kept[0]);
+        DUE.is("25: lines", x.lines(0), kept[1]);
+        DUE.is("25: ask", x.ask(0), kept[2]);
+        DUE.is("25: ask", x.ask(1), kept[3]);
+        x.restore(1);
+        DUE.is("25: four", x.told(4), 4);
+        DUE.is("25: lines", x.lines(0), other);
     }
 
     private static void imageKeepsStaleOnes() {

@@ -21,6 +21,9 @@ public final class ModelTest {
         for (int seed = 0; seed < objects; seed++) {
             new ModelTest(seed).go();
         }
+        for (int seed = 0; seed < 10 * objects; seed++) {
+            new ModelTest(seed).race();
+        }
         DUE.end();
     }
 
@@ -39,11 +42,38 @@ public final class ModelTest {
                 numbers();
             } else if (draw < 80) {
                 sights();
-            } else if (draw < 86) {
+            } else if (draw < 90) {
                 others();
             } else {
                 same("told", any(-3, 62));
             }
+        }
+    }
+
+    /** Eight lines, then seconds alone: what was made stale lies long in the queue. */
+    private void race() {
+        int[] slopes = {3, 8, 20, 50};
+        int[] bases = {8, 60, 300, 1000};
+        int spread = objectNumber % 4;
+        for (int runner = 0; runner < 8; runner++) {
+            int slope = any(-slopes[spread], slopes[spread]);
+            // Who is behind is steep, so that many pass one another.
+            int base = any(0, 3) == 0 ? any(-bases[spread], bases[spread]) : -slope * any(1, 20);
+            same("runner", runner, runner / 4, base, slope);
+        }
+        for (int text = 0; text < 4; text++) {
+            int seconds = any(1, 25);
+            for (int i = 0; i < seconds; i++) {
+                same("say", '.');
+            }
+            for (int what = 0; what < 7; what++) {
+                same("then", what);
+            }
+            same("done");
+            same("told", 3);
+            same("where");
+            same("next", any(0, 1));
+            same(any(0, 3) == 0 ? "image" : "restore", any(0, 1));
         }
     }
 

@@ -118,6 +118,9 @@ public final class RunnersTest {
         DUE.is("2: for ever", x.told(3), 0);
         x.runner(6, 1, 70, 1);
         DUE.is("2: as great: the steeper one", x.told(57), 6);
+        x.runner(6, 1, 70, 0);
+        Due.does(x, "g%h");
+        DUE.is("2: the less number, on the other place", x.told(57), 6);
         x.runner(6, 1, 69, 0);
         DUE.is("2: the greater one", x.told(57), 7);
         x.runner(6, 1, 71, -50);
