@@ -396,8 +396,10 @@ public final class KineticCup {
             System.arraycopy(from.place, 0, place, 0, RUNNERS);
             System.arraycopy(from.base, 0, base, 0, RUNNERS);
             System.arraycopy(from.slope, 0, slope, 0, RUNNERS);
-            System.arraycopy(from.in, 0, in, 0, RUNNERS);
             System.arraycopy(from.best, 0, best, 0, MATCHES + 1);
+            for (int i = 0; i < RUNNERS; i++) {
+                in[i] = from.in[i];
+            }
             queue.copy(from.queue);
             second = from.second;
         }
@@ -973,7 +975,9 @@ public final class KineticCup {
         void copy(Sights from) {
             System.arraycopy(from.time, 0, time, 0, SIGHTS_MOST);
             System.arraycopy(from.key, 0, key, 0, SIGHTS_MOST);
-            System.arraycopy(from.atLeast, 0, atLeast, 0, SIGHTS_MOST);
+            for (int i = 0; i < SIGHTS_MOST; i++) {
+                atLeast[i] = from.atLeast[i];
+            }
             size = from.size;
         }
 

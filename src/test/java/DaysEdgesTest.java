@@ -22,6 +22,7 @@ public final class DaysEdgesTest {
         whatIsDueFirstIsTakenFirst();
         ofSeveralTheGreatestMatch();
         staleThoughNoneCanBeMade();
+        staleStillWhenMoreAreMadeBehindDone();
         theMatchAboveIsLookedAtOnlyIfTheWinnerIsAnother();
         upToTheLastOne();
         doneOfAnEmptyPad();
@@ -361,6 +362,30 @@ public final class DaysEdgesTest {
         DUE.is("10: in no act", x.then(5), NONE);
         DUE.is("10: at no match", x.then(6), NONE);
         DUE.is("9: g stays", x.winner(3), 6);
+    }
+
+    /** e passes h at 10, so that of d and h, due at 25/2, is stale; d passes e at 20. */
+    private static void staleStillWhenMoreAreMadeBehindDone() {
+        for (int first = 0; first <= 12; first += 4) {
+            KineticCup x = with(3, 0, 20, 4);
+            x.runner(4, 0, 40, 3);
+            Due.does(x, ".".repeat(first));
+            x.image(0);
+            x.restore(0);
+            Due.pad(x, ".".repeat(31 - first));
+            for (int i = 0; i < 4; i++) {
+                DUE.is("10: stale, from " + first, x.then(3), 1);
+                DUE.is("10: leads, from " + first, x.then(1), 3);
+            }
+            Due.does(x, ".".repeat(12 - first));
+            DUE.is("26: both lie there", x.told(3), 2);
+            Due.pad(x, ".");
+            DUE.is("10: the stale one", x.then(3), 1);
+            DUE.is("10: no event", x.then(4), 0);
+            Due.does(x, "........");
+            DUE.is("26: none is left", x.told(3), 0);
+            DUE.is("26: d leads", x.told(2), 3);
+        }
     }
 
     /** f wins match 3 all the while; g passes h below it, and b passes f above it. */

@@ -27,6 +27,8 @@ public final class LeadersEdgesTest {
         numbersNextToPowersOfTwo();
         numbersAreTheNearest();
         heapOfNone();
+        heapOfOneIsItsNumber();
+        heapOfWhatComesToAlmostNothing();
         heapGoesByNumber();
         heapHalfWayIsEven();
         heapIsCutTowardsZero();
@@ -382,6 +384,32 @@ public final class LeadersEdgesTest {
         for (int r = 0; r < 8; r++) {
             heapIs(alone(r, -7, 1), 1, 9, -62f / 9f);
         }
+    }
+
+    /** The least values have their last bit farthest down. */
+    private static void heapOfOneIsItsNumber() {
+        for (int sign = -1; sign <= 1; sign += 2) {
+            KineticCup x = alone(4, 0, sign);
+            for (int q = 1; q <= 100; q++) {
+                DUE.is("17: as its number, 1 by " + q, x.heap(1, q, 0), x.number(4, 1, q, 0));
+                heapIs(x, 1, q, (float) sign / q);
+            }
+        }
+    }
+
+    private static void heapOfWhatComesToAlmostNothing() {
+        int left = 0;
+        for (int q = 51; q <= 100; q++) {
+            KineticCup x = alone(0, 0, -8);
+            x.runner(1, 0, 0, 7);
+            x.runner(2, 0, 0, 1);
+            for (int p = 1; p <= 9; p++) {
+                float sum = -8f * p / q + 7f * p / q + (float) p / q;
+                left += sum != 0 ? 1 : 0;
+                heapIs(x, p, q, sum);
+            }
+        }
+        DUE.isTrue("17: often a bit is left: " + left, left > 50);
     }
 
     /** The same values in another order come to another sum; a place is no order. */

@@ -16,6 +16,7 @@ public final class LinesEdgesTest {
         linesOfNone();
         linesRise();
         askOfNone();
+        askAtTheLastTime();
         askOfOne();
         askKeepsVWithinTheBounds();
         askTellsTheLeast();
@@ -23,6 +24,7 @@ public final class LinesEdgesTest {
         crossInLowestTerms();
         crossOfAnyTwo();
         runAtTheBounds();
+        runBySeed0();
         runWrapsAround();
         runLeavesOutWhatCanNotBe();
         runAtTheLastSecond();
@@ -31,6 +33,7 @@ public final class LinesEdgesTest {
         imagesAreTwo();
         imageKeepsAllButThePad();
         imageOfANewObject();
+        imageKeepsWhatWasSeen();
         imageIsKeptOverAgain();
         restoreAtTheLastSecond();
         toldAtTheBounds();
@@ -171,6 +174,17 @@ public final class LinesEdgesTest {
         x.forget();
         DUE.is("21: of all", x.ask(0), 8515);
         DUE.is("21: of all", x.ask(1), 296);
+        x.seen(0, 0, false);
+        DUE.is("21: nothing fits any more", x.ask(0), NONE);
+        DUE.is("21: nothing fits any more", x.ask(1), NONE);
+    }
+
+    private static void askAtTheLastTime() {
+        KineticCup x = new KineticCup();
+        x.seen(7, -1, true);
+        x.seen(4, 12, false);
+        DUE.is("21: at 9", x.ask(0), 9504);
+        DUE.is("21: at 9", x.ask(1), 23);
     }
 
     private static void askOfOne() {
@@ -292,6 +306,15 @@ public final class LinesEdgesTest {
         for (int what : new int[] {-1, 3}) {
             DUE.is("23: what " + what, x.run(0, 1, what), OUTSIDE);
         }
+    }
+
+    /** 0 draws 74, by which c would be slower, which it can not be, and 5624, a second. */
+    private static void runBySeed0() {
+        KineticCup x = new KineticCup();
+        x.runner(6, 1, 69, 1);
+        DUE.is("23: one act", x.run(0, 1, 1), 0);
+        DUE.is("23: two acts", x.run(0, 2, 1), 1);
+        DUE.is("23: g leads", x.run(0, 2, 0), 6);
     }
 
     /** Seeds whose first draw sends h out tell how x is left over by 65537. */
@@ -486,6 +509,22 @@ public final class LinesEdgesTest {
         KineticCup y = new KineticCup();
         y.image(0);
         DUE.isTrue("25: as new", Look.at(x).isLike(Look.at(y)));
+    }
+
+    /** Sights of another time, key and sense: each of the three must come back. */
+    private static void imageKeepsWhatWasSeen() {
+        KineticCup x = new KineticCup();
+        x.seen(0, 1, false);
+        x.seen(1, 7, true);
+        x.image(0);
+        x.forget();
+        x.seen(9, 5, true);
+        x.seen(3, -4, false);
+        x.restore(0);
+        DUE.is("25: 0, and 7, 8 or 9", x.lines(-1), 3);
+        DUE.is("25: the first", x.lines(0), 57);
+        DUE.is("25: the last", x.lines(2), 59);
+        DUE.is("25: ask", x.ask(0), 1508);
     }
 
     private static void imageIsKeptOverAgain() {
