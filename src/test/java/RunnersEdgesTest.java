@@ -27,6 +27,7 @@ public final class RunnersEdgesTest {
         secondSigns();
         thirdSigns();
         moreMustCome();
+        signsThatWentDoNotCount();
         DUE.end();
     }
 
@@ -355,5 +356,25 @@ public final class RunnersEdgesTest {
         faultIs(".".repeat(57) + "a%x", 59);
         faultIs("a+".repeat(30), NONE);
         faultIs("x" + ".".repeat(58) + "a", 0);
+    }
+
+    /** What stood on the pad ahead of wipe or done would make the short text whole. */
+    private static void signsThatWentDoNotCount() {
+        KineticCup x = new KineticCup();
+        Due.pad(x, "h!e%f.a#");
+        x.wipe();
+        x.say('h');
+        DUE.is("5: wiped, one sign", x.fault(), 1);
+        DUE.is("6: wiped, one sign", x.judge(0), -5);
+        DUE.is("7: wiped, one sign", x.done(), -5);
+        Due.pad(x, "e%f..");
+        DUE.is("7: three acts", x.done(), 3);
+        x.say('e');
+        DUE.is("5: done, one sign", x.fault(), 1);
+        x.say('%');
+        DUE.is("5: done, two signs", x.fault(), 2);
+        x.say('g');
+        DUE.is("5: done, three signs", x.fault(), NONE);
+        DUE.is("7: one act", x.done(), 1);
     }
 }
