@@ -725,7 +725,7 @@ public final class KineticCup {
             if (!isHere(certificate)) {
                 return;
             }
-            for (int i = certificate; i + 1 < size; i++) {
+            for (int i = certificate; i + 1 < size && i + 1 < CAPACITY; i++) {
                 match[i] = match[i + 1];
                 upper[i] = upper[i + 1];
                 lower[i] = lower[i + 1];
